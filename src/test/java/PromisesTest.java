@@ -28,6 +28,7 @@ public final class PromisesTest {
         promise6Narrow();
         promise6Empty();
         promise6Arguments();
+        promise7Settles();
         promise7Unsigned();
         promise7Signed();
         promise7Same();
@@ -250,7 +251,11 @@ public final class PromisesTest {
         operates(0, signed(MIN, MIN + 1), exact(-1), 0, MOST, 0, MOST, MIN, MAX);
         operates(0, unsigned(0, MOST - 5), unsigned(1, 5), 0, MOST, 1, MOST, MIN, MAX);
         operates(0, unsigned(0, MOST - 4), unsigned(1, 5), knownAny());
-        operates(0, bits(1, -2L << 1), exact(2), 3, -4, 3, MOST, MIN, MAX);
+        operates(0, bits(1, -4), exact(2), 3, -4, 3, MOST, MIN, MAX);
+        operates(0, signed(-1, 1), exact(0), 0, MOST, 0, MOST, -1, 1);
+        operates(0, signed(-3, 2), signed(-4, 9), 0, MOST, 0, MOST, -7, 11);
+        operates(0, exact(12), bits(16, 3), 28, 3, 28, 31, 28, 31);
+        operates(0, bits(0, 4), bits(0, 4), 0, 12, 0, 8, 0, 8);
 
         operates(1, unsigned(1, 5), unsigned(2, 3), 0, MOST, 0, MOST, -2, 3);
         operates(1, unsigned(10, 20), unsigned(3, 10), 0, 31, 0, 17, 0, 17);
@@ -261,6 +266,10 @@ public final class PromisesTest {
         operates(1, signed(MAX - 1, MAX), exact(-1), 0, MOST, 0, MOST, MIN, MAX);
         operates(1, bits(12, 3), exact(4), 8, 3, 8, 11, 8, 11);
         operates(1, exact(15), bits(0, 3), 12, 3, 12, 15, 12, 15);
+        operates(1, signed(-1, 1), exact(0), 0, MOST, 0, MOST, -1, 1);
+        operates(1, signed(-3, 2), signed(-4, 9), 0, MOST, 0, MOST, -12, 6);
+        operates(1, signed(MIN, 0), signed(0, 1), 0, MOST, 0, MOST, MIN, MAX);
+        operates(1, signed(0, MAX), signed(-1, 0), 0, MOST, 0, MOST, MIN, MAX);
 
         operates(11, exact(305419896), exact(7), knownExact(-305419896));
         operates(11, exact(MIN), any(), knownExact(MIN));
@@ -315,6 +324,9 @@ public final class PromisesTest {
         operates(5, signed(-5, -1), unsigned(10, 20), 0, 31, 0, 20, 0, 20);
         operates(5, any(), exact(-4), 0, -4, 0, -4, MIN, MAX);
         operates(5, exact(12), exact(10), knownExact(8));
+        operates(5, unsigned(10, 20), any(), 0, 31, 0, 20, 0, 20);
+        operates(6, exact(1), bits(12, 2), 13, 2, 13, 15, 13, 15);
+        operates(7, exact(5), bits(12, 3), 8, 3, 8, 11, 8, 11);
         operates(6, bits(12, 3), exact(1), 13, 2, 13, 15, 13, 15);
         operates(6, unsigned(10, 20), unsigned(3, 4), 0, 31, 10, 31, 10, 31);
         operates(6, any(), unsigned(3, 4), 0, MOST, 3, MOST, MIN, MAX);
@@ -339,6 +351,7 @@ public final class PromisesTest {
         operates(8, exact(3), exact(63), knownExact(MIN));
         operates(8, exact(1), exact(33), knownExact(TWO_32 * 2));
 
+        operates(9, bits(16, 5), exact(1), 8, 2, 8, 10, 8, 10);
         operates(9, any(), exact(2), 0, MOST >>> 2, 0, MOST >>> 2, 0, MOST >>> 2);
         operates(9, exact(-1), exact(63), knownExact(1));
         operates(9, unsigned(10, 20), exact(1), 0, 15, 5, 10, 5, 10);
@@ -347,6 +360,8 @@ public final class PromisesTest {
         operates(9, exact(8), unsigned(1, 2), knownAny());
 
         operates(10, exact(-8), exact(1), knownExact(-4));
+        operates(10, bits(16, 5), exact(1), 8, 2, 8, 10, 8, 10);
+        operates(10, bits(2, MIN), exact(1), 1, MIN | MIN >>> 1, 1, (MIN | MIN >>> 1) + 1, MIN >> 1, MAX >> 1);
         operates(10, exact(MIN), exact(63), knownExact(-1));
         operates(10, any(), exact(63), 0, MOST, 0, MOST, -1, 0);
         operates(10, signed(-2, 3), exact(2), 0, MOST, 0, MOST, -1, 0);
@@ -419,6 +434,7 @@ public final class PromisesTest {
         narrow(10, exact(0x7FFFFFFFL), exact(4), knownExact(0x07FFFFFFL));
         narrow(10, exact(0x7FFFFFFFL), exact(36), knownExact(0x07FFFFFFL));
         narrow(10, exact(TWO_31), exact(4), knownAnyNarrow());
+        narrow(10, unsigned(0, TWO_31), exact(4), knownAnyNarrow());
         narrow(10, exact(TWO_32 + 16), exact(2), knownExact(4));
         narrow(10, exact(16), unsigned(1, 2), knownAnyNarrow());
         narrow(11, exact(1), any(), knownExact(LOW));
@@ -472,6 +488,16 @@ public final class PromisesTest {
         }
         CHECK.exact("after wrong arguments", desk, X, -42);
         CHECK.exact("after wrong arguments", desk, Y, 40);
+    }
+
+    /** The greatest tells bit 3, then bits tell the greatest and it bit 1, and then bits the least. */
+    private static void promise7Settles() {
+        RangeDesk desk = desk(bits(1, 10), exact(2));
+        CHECK.due("NOT BELOW 2", desk.holds(2, X, Y, false), true);
+        CHECK.number("not below 2", desk, X, 1, 10, 2, 11, 2, 11);
+        desk.exact(Y, 4);
+        CHECK.due("NOT ABOVE 4", desk.holds(8, X, Y, false), true);
+        CHECK.exact("three rounds of settling", desk, X, 3);
     }
 
     private static void promise7Unsigned() {
@@ -532,6 +558,12 @@ public final class PromisesTest {
         tells(0, signed(-5, 5), unsigned(3, 100), few, few);
         tells(0, any(), exact(-7), knownExact(-7), knownExact(-7));
         tells(0, bits(1, -2), bits(2, -4 | 1), known(3, -4, 3, MOST, MIN, MAX), known(3, -4, 3, MOST, MIN, MAX));
+        long[] unsignedBoth = known(0, MOST, 5, MOST - 3, MIN, MAX);
+        tells(0, unsigned(5, MOST - 1), unsigned(2, MOST - 3), unsignedBoth, unsignedBoth);
+        tells(0, unsigned(2, MOST - 3), unsigned(5, MOST - 1), unsignedBoth, unsignedBoth);
+        long[] signedBoth = known(0, MOST, 0, MOST, -5, 3);
+        tells(0, signed(-5, 7), signed(-9, 3), signedBoth, signedBoth);
+        tells(0, signed(-9, 3), signed(-5, 7), signedBoth, signedBoth);
         cannot(0, bits(1, -2), bits(0, -2));
         cannot(0, unsigned(1, 5), unsigned(6, 9));
         cannot(0, signed(-5, -1), signed(0, 4));
