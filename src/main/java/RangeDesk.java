@@ -1,6 +1,6 @@
 /**
  * Sixteen numbers of 64 bits of which not all is known: which bits, and between which bounds,
- * unsigned and signed. No call makes an object: every number is made with the desk and used again.
+ * unsigned and signed. Every number is made with the desk and used again, as all calls share one room.
  */
 public final class RangeDesk {
 
