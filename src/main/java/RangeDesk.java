@@ -476,14 +476,11 @@ public final class RangeDesk {
         }
 
         private void divide() {
-            long divisor = y.value;
             if (!y.isExact()) {
                 result.setUnsigned(0L, x.greatest);
-            } else if (divisor == 0L) {
-                result.becomeExact(0L);
             } else {
-                result.setUnsigned(Long.divideUnsigned(x.least, divisor),
-                        Long.divideUnsigned(x.greatest, divisor));
+                // By EXACT 0 this is [0, 0], which settles to EXACT 0.
+                result.setUnsigned(quotient(x.least, y.value), quotient(x.greatest, y.value));
             }
         }
 
@@ -579,6 +576,20 @@ public final class RangeDesk {
 
         private static long greatestOf(int bytes) {
             return MOST >>> (64 - 8 * bytes);
+        }
+
+        /** Of unsigned longs; by 0 it is 0. Java's own division takes those from 2^63 on as negative. */
+        private static long quotient(long a, long divisor) {
+            if (divisor == 0L) {
+                return 0L;
+            }
+            if (divisor < 0L) {
+                // It is 2^63 or more, and goes into a once at most.
+                return isAbove(divisor, a) ? 0L : 1L;
+            }
+            // Half of a is never negative; what twice its quotient leaves of a is below two divisors.
+            long even = (a >>> 1) / divisor << 1;
+            return isAbove(divisor, a - even * divisor) ? even : even + 1L;
         }
 
         private static boolean sumOverflows(long a, long b) {

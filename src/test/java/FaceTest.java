@@ -32,6 +32,11 @@ public final class FaceTest {
         "\\bsynchronized\\b", "->", "::", "\\bdouble\\b", "\\bfloat\\b", "\\bObject\\b", "Math\\.\\w+Exact",
         "\\bstatic\\s*\\{", "\\bwhile\\b", "\\bSystem\\b", "\\bThread\\b", "\\bprotected\\b"};
 
+    // What rule 4 of LANGUAGE.md names of Integer, Long and Math, and those of their like that the class uses.
+    private static final Set<String> LIBRARY = Set.of(
+            "compare", "max", "min", "abs", "bitCount", "floorDiv", "floorMod",
+            "numberOfLeadingZeros", "numberOfTrailingZeros", "reverseBytes", "MIN_VALUE", "MAX_VALUE");
+
     // Made once with a desk; a call makes nothing but what it throws.
     private static final String MADE = "new (Num\\[NUMBERS\\]|Num\\(\\)|Calculation\\(\\)|Comparison\\(\\)"
             + "|IndexOutOfBoundsException\\(\"[^\"]*\"\\))";
@@ -88,6 +93,10 @@ public final class FaceTest {
         Matcher made = Pattern.compile("\\bnew\\b[^;]*").matcher(bare);
         while (made.find()) {
             CHECK.due("made: " + made.group(), made.group().matches(MADE), true);
+        }
+        Matcher used = Pattern.compile("\\b[A-Z]\\w*[a-z]\\w*\\s*\\.\\s*(\\w+)").matcher(bare);
+        while (used.find()) {
+            CHECK.due("not of the library's list: " + used.group(), LIBRARY.contains(used.group(1)), true);
         }
         methodLengths(bare.split("\n"));
     }
