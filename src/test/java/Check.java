@@ -6,28 +6,52 @@ final class Check {
     static final long MIN = Long.MIN_VALUE;
     static final long MAX = Long.MAX_VALUE;
     static final int NUMBERS = 16;
-    static final int[] WRONG_NUMBERS = {-1, 16, 17, Integer.MIN_VALUE, Integer.MAX_VALUE};
+    static final int[] WRONG_NUMBERS = {
+        -1, 16, 17, -16, 32, 256, 65536, Integer.MIN_VALUE, Integer.MAX_VALUE};
 
     private int wrong;
+    private long asked;
+    private String heading = "";
 
     /** A call that may throw. */
     interface Call {
         void make();
     }
 
+    /** Holds the class to one sentence of the document; every fault that the test finds is told under it. */
+    void sentence(String promise, String sentence, Runnable test) {
+        heading = promise + ", \"" + sentence + "\": ";
+        if (!Document.says(sentence)) {
+            report("the document doesn't say so");
+        }
+        long askedAhead = asked;
+        try {
+            test.run();
+        } catch (RuntimeException e) {
+            report("threw " + e);
+        }
+        if (asked == askedAhead) {
+            report("nothing was asked");
+        }
+        heading = "";
+    }
+
     void due(String what, long got, long want) {
+        asked++;
         if (got != want) {
             report(what + " answered " + got + ", due is " + want);
         }
     }
 
     void due(String what, boolean got, boolean want) {
+        asked++;
         if (got != want) {
             report(what + " answered " + got + ", due is " + want);
         }
     }
 
     void throwsIndex(String what, Call call) {
+        asked++;
         try {
             call.make();
         } catch (RuntimeException e) {
@@ -41,6 +65,7 @@ final class Check {
 
     /** All that is known of a number: value, mask, unsigned bounds, signed bounds. */
     void number(String what, RangeDesk desk, int i, long... want) {
+        asked++;
         for (int k = 0; k < want.length; k++) {
             if (desk.look(i, k) != want[k]) {
                 report(what + ": number " + i + " is " + text(all(desk, i)) + ", due is " + text(want));
@@ -76,7 +101,7 @@ final class Check {
     void report(String fault) {
         wrong++;
         if (wrong <= 50) {
-            System.out.println(fault);
+            System.out.println(heading + fault);
         }
     }
 

@@ -1,19 +1,7 @@
 /** Each promise by hand: ordinary inputs, the edges that the document names, and wrong inputs. */
-public final class PromisesTest {
+public final class PromisesTest extends ByHand {
 
-    private static final long MOST = Check.MOST;
-    private static final long LOW = Check.LOW;
-    private static final long MIN = Check.MIN;
-    private static final long MAX = Check.MAX;
-    private static final long TWO_31 = 1L << 31;
-    private static final long TWO_32 = 1L << 32;
     private static final long[] EDGES = {0, 1, -1, 2, LOW, TWO_31, TWO_32, MIN, MAX, MIN + 1, MAX - 1};
-
-    private static final int X = 1;
-    private static final int Y = 2;
-    private static final int R = 3;
-
-    private static final Check CHECK = new Check();
 
     public static void main(String[] args) {
         promise1();
@@ -40,114 +28,6 @@ public final class PromisesTest {
         promise9();
         promise10();
         CHECK.end();
-    }
-
-    private static RangeDesk desk(long[] x, long[] y) {
-        RangeDesk desk = new RangeDesk();
-        set(desk, X, x);
-        set(desk, Y, y);
-        return desk;
-    }
-
-    // How a number is set: by its kind and the arguments of the call.
-    private static long[] exact(long c) {
-        return new long[] {0, c};
-    }
-
-    private static long[] any() {
-        return new long[] {1};
-    }
-
-    private static long[] bits(long value, long mask) {
-        return new long[] {2, value, mask};
-    }
-
-    private static long[] unsigned(long least, long greatest) {
-        return new long[] {3, least, greatest};
-    }
-
-    private static long[] signed(long least, long greatest) {
-        return new long[] {4, least, greatest};
-    }
-
-    private static void set(RangeDesk desk, int i, long[] how) {
-        boolean done;
-        switch ((int) how[0]) {
-            case 0:
-                done = desk.exact(i, how[1]);
-                break;
-            case 1:
-                done = desk.any(i);
-                break;
-            case 2:
-                done = desk.bits(i, how[1], how[2]);
-                break;
-            default:
-                done = desk.bounds(i, how[1], how[2], how[0] == 4);
-                break;
-        }
-        CHECK.due("setting number " + i, done, true);
-    }
-
-    private static long[] known(long... all) {
-        return all;
-    }
-
-    private static long[] knownExact(long c) {
-        return known(c, 0, c, c, c, c);
-    }
-
-    private static long[] knownAny() {
-        return known(0, MOST, 0, MOST, MIN, MAX);
-    }
-
-    private static long[] knownAnyNarrow() {
-        return known(0, LOW, 0, LOW, 0, LOW);
-    }
-
-    private static void operates(int operation, long[] x, long[] y, long... want) {
-        operates(operation, false, x, y, want);
-    }
-
-    private static void narrow(int operation, long[] x, long[] y, long... want) {
-        operates(operation, true, x, y, want);
-    }
-
-    private static void operates(int operation, boolean narrow, long[] x, long[] y, long[] want) {
-        RangeDesk desk = desk(x, y);
-        long[] xWas = Check.all(desk, X);
-        long[] yWas = Check.all(desk, Y);
-        String call = "operate " + operation + (narrow ? " narrow of " : " of ")
-                + Check.text(xWas) + " and " + Check.text(yWas);
-        CHECK.due(call, desk.operate(R, operation, X, Y, narrow), true);
-        CHECK.number(call, desk, R, want);
-        CHECK.number(call + ", x", desk, X, xWas);
-        CHECK.number(call + ", y", desk, Y, yWas);
-    }
-
-    /** Where wantX is null, the relation can't hold, and both stay as they were. */
-    private static void holds(int relation, boolean narrow, long[] x, long[] y, long[] wantX, long[] wantY) {
-        RangeDesk desk = desk(x, y);
-        long[] xWas = Check.all(desk, X);
-        long[] yWas = Check.all(desk, Y);
-        String call = "holds " + relation + (narrow ? " narrow of " : " of ")
-                + Check.text(xWas) + " and " + Check.text(yWas);
-        CHECK.due(call, desk.holds(relation, X, Y, narrow), wantX != null);
-        CHECK.number(call + ", x", desk, X, wantX != null ? wantX : xWas);
-        CHECK.number(call + ", y", desk, Y, wantX != null ? wantY : yWas);
-    }
-
-    private static void tells(int relation, long[] x, long[] y, long[] wantX, long[] wantY) {
-        holds(relation, false, x, y, wantX, wantY);
-    }
-
-    private static void cannot(int relation, long[] x, long[] y) {
-        holds(relation, false, x, y, null, null);
-    }
-
-    private static void tellsNothing(int relation, boolean narrow, long[] x, long[] y) {
-        RangeDesk desk = desk(x, y);
-        holds(relation, narrow, x, y, Check.all(desk, X), Check.all(desk, Y));
     }
 
     private static void promise1() {
@@ -182,14 +62,6 @@ public final class PromisesTest {
         }
         CHECK.exact("after wrong numbers", desk, 0, 5);
         CHECK.exact("after wrong numbers", desk, 15, MAX - 1);
-    }
-
-    private static void isSet(long[] how, long... want) {
-        RangeDesk desk = new RangeDesk();
-        set(desk, 0, exact(9));
-        set(desk, 0, how);
-        CHECK.number("set " + Check.text(how), desk, 0, want);
-        CHECK.exact("the number beside", desk, 1, 0);
     }
 
     private static void promise4() {
@@ -447,17 +319,9 @@ public final class PromisesTest {
         narrow(14, exact(-1), exact(2), knownExact(65535));
     }
 
-    /** Its bits allow 2, 3, 10, 11 and its bounds 4 .. 9, so that it stands for no long at all. */
-    private static RangeDesk hollow() {
-        RangeDesk desk = desk(bits(2, 9), unsigned(4, 9));
-        CHECK.due("bits and bounds that don't meet", desk.holds(0, X, Y, false), true);
-        CHECK.number("the hollow number", desk, X, 2, 9, 4, 9, 4, 9);
-        desk.exact(Y, 4);
-        return desk;
-    }
-
     private static void promise6Empty() {
-        RangeDesk desk = hollow();
+        RangeDesk desk = desk(hollow(), exact(4));
+        CHECK.number("the hollow number", desk, X, 2, 9, 4, 9, 4, 9);
         desk.operate(R, 1, X, Y, false);
         CHECK.any("SUBTRACT that is EMPTY", desk, R);
         desk.operate(R, 1, X, Y, true);
@@ -616,15 +480,15 @@ public final class PromisesTest {
             tellsNothing(relation, true, any(), unsigned(5, 9));
             tellsNothing(relation, true, unsigned(5, 9), any());
         }
-        holds(0, true, exact(TWO_32), exact(10), null, null);
-        holds(1, true, exact(TWO_32), exact(10), null, null);
-        holds(2, true, exact(TWO_32), exact(10), null, null);
-        holds(3, true, exact(TWO_32), exact(3), null, null);
-        holds(4, true, exact(TWO_32 + 10), exact(10), null, null);
-        holds(7, true, exact(TWO_32 + 10), exact(10), null, null);
-        holds(7, true, exact(9), exact(TWO_32), null, null);
-        holds(8, true, exact(TWO_32 + 11), exact(10), null, null);
-        holds(11, true, exact(TWO_32 + 3), exact(1), null, null);
+        cannotNarrow(0, exact(TWO_32), exact(10));
+        cannotNarrow(1, exact(TWO_32), exact(10));
+        cannotNarrow(2, exact(TWO_32), exact(10));
+        cannotNarrow(3, exact(TWO_32), exact(3));
+        cannotNarrow(4, exact(TWO_32 + 10), exact(10));
+        cannotNarrow(7, exact(TWO_32 + 10), exact(10));
+        cannotNarrow(7, exact(9), exact(TWO_32));
+        cannotNarrow(8, exact(TWO_32 + 11), exact(10));
+        cannotNarrow(11, exact(TWO_32 + 3), exact(1));
         tellsNothing(0, true, exact(TWO_32 + 10), exact(10));
         tellsNothing(1, true, exact(TWO_32 + 11), exact(10));
         tellsNothing(2, true, exact(TWO_32 + 10), exact(10));
@@ -651,7 +515,7 @@ public final class PromisesTest {
         tellsNothing(9, true, unsigned(0, TWO_31), exact(10));
         holds(5, true, exact(10), unsigned(0, TWO_31 - 1), knownExact(10), known(0, 15, 0, 9, 0, 9));
         tellsNothing(5, true, exact(10), unsigned(0, TWO_31));
-        holds(5, true, exact(TWO_31 - 2), exact(TWO_31 - 1), null, null);
+        cannotNarrow(5, exact(TWO_31 - 2), exact(TWO_31 - 1));
         holds(6, true, exact(3), unsigned(3, 9), knownExact(3), knownExact(3));
         holds(10, true, unsigned(3, 9), exact(3), knownExact(3), knownExact(3));
     }
@@ -704,7 +568,7 @@ public final class PromisesTest {
     }
 
     private static void promise9() {
-        RangeDesk desk = hollow();
+        RangeDesk desk = desk(hollow(), exact(4));
         for (long c = 0; c < 16; c++) {
             CHECK.due("a hollow number has " + c, desk.has(X, c), false);
         }
@@ -734,14 +598,6 @@ public final class PromisesTest {
         for (int i : Check.WRONG_NUMBERS) {
             CHECK.throwsIndex("has of " + i, () -> desk.has(i, 0));
         }
-    }
-
-    private static void covers(long[] i, long[] other, boolean forth, boolean back) {
-        RangeDesk desk = desk(i, other);
-        String pair = Check.text(i) + " and " + Check.text(other);
-        CHECK.due("covers of " + pair, desk.covers(X, Y), forth);
-        CHECK.due("covers, turned, of " + pair, desk.covers(Y, X), back);
-        CHECK.due("covers of itself", desk.covers(X, X) && desk.covers(Y, Y), true);
     }
 
     private static void promise10() {
