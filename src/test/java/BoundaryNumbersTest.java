@@ -290,11 +290,17 @@ public final class BoundaryNumbersTest extends ByHand {
 
     /** Nothing crosses here: but a known 0 stands where all between the bounds have 1, or a 1 where they have 0. */
     private static void emptyByBits() {
-        cannot(0, bits(2, 9), unsigned(4, 7));
-        cannot(0, unsigned(4, 7), bits(2, 9));
-        cannot(0, bits(4, 11), unsigned(8, 11));
-        cannot(0, bits(MIN | 2, 9), unsigned(MIN | 4, MIN | 7));
-        cannot(0, bits(MIN >>> 2, MIN | MIN >>> 1 | 1), unsigned(MIN >>> 1, (MIN >>> 1) + 1));
+        Setting zero = both(bits(2, 9), unsigned(4, 11));
+        isSet(zero, 2, 9, 4, 11, 4, 11);
+        cannot(8, zero, exact(7));
+        cannot(2, exact(7), zero);
+        Setting one = both(bits(4, 11), unsigned(5, 11));
+        isSet(one, 4, 11, 5, 11, 5, 11);
+        cannot(2, one, exact(8));
+        cannot(8, exact(8), one);
+        Setting high = both(bits(2L << 60, 9L << 60), unsigned(4L << 60, 11L << 60));
+        isSet(high, 2L << 60, 9L << 60, 4L << 60, 11L << 60, MIN, MAX);
+        cannot(8, high, exact(7L << 60));
         // Where the differing bit is in k, it is not EMPTY, though no long agrees.
         isSet(both(bits(2, 9), unsigned(4, 9)), 2, 9, 4, 9, 4, 9);
         isSet(both(bits(4, 11), unsigned(8, 12)), knownExact(12));
@@ -314,6 +320,9 @@ public final class BoundaryNumbersTest extends ByHand {
         cannot(5, bits(8, 1), exact(9));
         cannot(11, unsigned(7, 9), exact(15));
         cannot(3, both(bits(1, 10), unsigned(0, 8)), exact(8));
+        // One kind crosses, and the other never comes to know of it.
+        cannot(2, unsigned(0, 4), exact(MIN));
+        cannot(6, signed(-9, -5), exact(3));
         // Behind (2) and (3): each kind of bounds is in order until the other comes to it.
         Setting apart = both(unsigned(5, MIN), signed(-10, 3));
         isSet(apart, 0, MOST, 5, MIN, -10, 3);
@@ -449,6 +458,11 @@ public final class BoundaryNumbersTest extends ByHand {
         isStillMarked("crossed bounds", desk);
         isSet(unsigned(1, -1), 0, MOST, 1, MOST, MIN, MAX);
         isSet(signed(-1, 1), 0, MOST, 0, MOST, -1, 1);
+        // A least that is its greatest is not above it.
+        for (long c : ENDS) {
+            isSet(unsigned(c, c), knownExact(c));
+            isSet(signed(c, c), knownExact(c));
+        }
     }
 
     // ---- Promises 8 to 10

@@ -267,8 +267,11 @@ public final class BoundaryOperationsTest extends ByHand {
         operates(REST, bits(0, -2), exact(MIN), 0, MAX, 0, MAX, 0, MAX);
         operates(REST, bits(0, -2), unsigned(1, 2), 0, MOST, 0, MOST - 1, MIN, MAX);
         operates(AND, unsigned(5, MIN), signed(MIN + 1, 7), 0, MOST, 0, MIN, MIN, MAX);
+        operates(AND, signed(-5, 7), unsigned(5, MIN), 0, MOST, 0, MIN, MIN, MAX);
         operates(OR, unsigned(5, MIN), signed(-5, 7), 0, MOST, 5, MOST, MIN, MAX);
+        operates(OR, signed(-5, 7), unsigned(5, MIN), 0, MOST, 5, MOST, MIN, MAX);
         operates(XOR, unsigned(5, MIN), signed(-5, 7), knownAny());
+        operates(XOR, signed(-5, 7), unsigned(5, MIN), knownAny());
         operates(LEFT, signed(-1, 1), exact(0), knownAny());
         operates(RIGHT, signed(-1, 1), exact(0), knownAny());
         operates(RIGHT_SIGNED, unsigned(5, MIN), exact(0), knownAny());
@@ -350,6 +353,9 @@ public final class BoundaryOperationsTest extends ByHand {
         operates(ADD, signed(MIN, -1), signed(0, MAX), 0, MOST, 0, MOST, MIN, MAX - 1);
         operates(ADD, signed(MIN + 1, 3), exact(-1), 0, MOST, 0, MOST, MIN, 2);
         operates(ADD, signed(MIN, 3), exact(-1), knownAny());
+        // What wraps would look like bounds in order.
+        operates(ADD, signed(MIN, 0), signed(MIN, 5), knownAny());
+        operates(ADD, signed(-1, MAX), signed(-1, MAX), knownAny());
         // One of both ends overflows, and then both: the unsigned ones tell all.
         operates(ADD, unsigned(MAX - 1, MAX), exact(1), 0, MOST, MAX, MIN, MIN, MAX);
         operates(ADD, unsigned(MAX - 1, MAX), exact(2), MIN, 1, MIN, MIN + 1, MIN, MIN + 1);
@@ -398,6 +404,9 @@ public final class BoundaryOperationsTest extends ByHand {
         operates(SUBTRACT, exact(-1), signed(MIN, MAX), knownAny());
         operates(SUBTRACT, signed(MIN, MAX), exact(0), knownAny());
         operates(SUBTRACT, signed(MIN, MAX), exact(1), knownAny());
+        // What wraps would look like bounds in order.
+        operates(SUBTRACT, signed(MIN, 5), signed(1, MAX), knownAny());
+        operates(SUBTRACT, signed(-5, MAX), signed(MIN, 1), knownAny());
         // One of both ends overflows: the unsigned ones tell all.
         operates(SUBTRACT, unsigned(MIN, MIN + 1), exact(1), 0, MOST, MAX, MIN, MIN, MAX);
     }
@@ -459,6 +468,10 @@ public final class BoundaryOperationsTest extends ByHand {
         operates(MULTIPLY, unsigned(2, LOW + 1), unsigned(1, 2), knownAny());
         operates(MULTIPLY, unsigned(1, 2), unsigned(2, LOW + 1), knownAny());
         operates(MULTIPLY, unsigned(0, MOST), unsigned(0, 1), knownAny());
+        operates(MULTIPLY, unsigned(3, MOST), exact(1), knownAny());
+        operates(MULTIPLY, exact(1), unsigned(3, MOST), knownAny());
+        operates(MULTIPLY, unsigned(3, MIN), exact(1), knownAny());
+        operates(MULTIPLY, exact(1), unsigned(3, MIN), knownAny());
         operates(MULTIPLY, exact(LOW), unsigned(LOW - 1, LOW), 0xFFFFFFFC00000000L, 0x3FFFFFFFFL,
                 0xFFFFFFFD00000002L, 0xFFFFFFFE00000001L, 0xFFFFFFFD00000002L, 0xFFFFFFFE00000001L);
         operates(MULTIPLY, unsigned(0, 1), unsigned(0, LOW), 0, LOW, 0, LOW, 0, LOW);
@@ -477,9 +490,13 @@ public final class BoundaryOperationsTest extends ByHand {
         operates(DIVIDE, unsigned(10, 20), exact(3), 0, 7, 3, 6, 3, 6);
         operates(DIVIDE, unsigned(5, MIN), exact(1), 0, MOST, 5, MIN, MIN, MAX);
         operates(DIVIDE, any(), exact(1), knownAny());
+        operates(DIVIDE, bits(8, 5), exact(1), 8, 7, 8, 13, 8, 13);
         operates(DIVIDE, any(), exact(2), 0, MAX, 0, MAX, 0, MAX);
         operates(DIVIDE, any(), exact(MIN), 0, 1, 0, 1, 0, 1);
         operates(DIVIDE, any(), exact(MAX), 0, 3, 0, 2, 0, 2);
+        operates(DIVIDE, unsigned(MAX - 1, MIN), exact(MAX), 0, 1, 0, 1, 0, 1);
+        operates(DIVIDE, unsigned(MAX, MIN), exact(MAX), knownExact(1));
+        operates(DIVIDE, unsigned(MOST - 2, MOST - 1), exact(MAX), 0, 3, 1, 2, 1, 2);
         operates(DIVIDE, any(), exact(MOST), 0, 1, 0, 1, 0, 1);
         operates(DIVIDE, unsigned(0, MOST - 1), exact(MOST), knownExact(0));
         operates(DIVIDE, exact(MOST), exact(MOST), knownExact(1));
@@ -518,6 +535,8 @@ public final class BoundaryOperationsTest extends ByHand {
         operates(REST, unsigned(1, 5), exact(5), 0, 7, 0, 4, 0, 4);
         operates(REST, bits(12, 3), exact(16), 12, 3, 12, 15, 12, 15);
         operates(REST, bits(12, 3), exact(15), 0, 15, 0, 14, 0, 14);
+        operates(REST, bits(8, 5), exact(14), 8, 5, 8, 13, 8, 13);
+        operates(REST, bits(8, 5), exact(13), 0, 15, 0, 12, 0, 12);
         operates(REST, exact(7), exact(7), 0, 7, 0, 6, 0, 6);
         operates(REST, exact(7), exact(8), knownExact(7));
         operates(REST, exact(7), exact(1), knownExact(0));
@@ -901,6 +920,10 @@ public final class BoundaryOperationsTest extends ByHand {
         narrow(MOVE, any(), signed(MIN, MAX), knownAnyNarrow());
         narrow(MOVE, any(), signed(MIN, MIN + 1), 0, 1, 0, 1, 0, 1);
         narrow(MOVE, any(), signed(MAX - 1, MAX), LOW - 1, 1, LOW - 1, LOW, LOW - 1, LOW);
+        // What is known of the bits comes to the bounds, of x and y and of the result.
+        narrow(DIVIDE, bits(5, -TWO_32), exact(1), knownExact(5));
+        narrow(DIVIDE, exact(10), bits(5, -TWO_32), knownExact(2));
+        narrow(LEFT, unsigned(1, 2), exact(31), 0, TWO_31, 0, TWO_31, 0, TWO_31);
     }
 
     /** What is settled stays so as it is narrowed, even where no long agrees: EMPTY doesn't come up. */

@@ -44,6 +44,10 @@ public final class BoundaryRelationsTest extends ByHand {
                 BoundaryRelationsTest::xIsY);
         CHECK.sentence("Promise 7", "or there are no such ones.",
                 BoundaryRelationsTest::noSuchNumbers);
+        CHECK.sentence("Promise 7, RELATIONS", "0 SAME, 1 ABOVE, 2 NOT BELOW (both unsigned), 3 MEET (x AND y is not 0),"
+                + " 4 NOT SAME, 5 GREATER, 6 NOT LESS (both signed), 7 BELOW, 8 NOT ABOVE (unsigned), 9 LESS,"
+                + " 10 NOT GREATER (signed), 11 NOT MEET.",
+                BoundaryRelationsTest::relationsOfExactOnes);
     }
 
     private static void order() {
@@ -198,6 +202,32 @@ public final class BoundaryRelationsTest extends ByHand {
         CHECK.due("SAME of 15 and 0", desk.holds(SAME, 15, 0, true), true);
     }
 
+    /** Of two EXACT numbers a relation can hold where it is true of both longs, and then tells nothing. */
+    private static void relationsOfExactOnes() {
+        long[] ends = {0, 1, 2, MAX - 1, MAX, MIN, MIN + 1, MOST - 1, MOST, TWO_31, LOW, LOW + 1};
+        for (long a : ends) {
+            for (long b : ends) {
+                int unsigned = Long.compareUnsigned(a, b);
+                boolean[] due = new boolean[RELATIONS];
+                due[SAME] = a == b;
+                due[ABOVE] = unsigned > 0;
+                due[NOT_BELOW] = unsigned >= 0;
+                due[MEET] = (a & b) != 0;
+                due[NOT_SAME] = a != b;
+                due[GREATER] = a > b;
+                due[NOT_LESS] = a >= b;
+                due[BELOW] = unsigned < 0;
+                due[NOT_ABOVE] = unsigned <= 0;
+                due[LESS] = a < b;
+                due[NOT_GREATER] = a <= b;
+                due[NOT_MEET] = (a & b) == 0;
+                for (int relation = 0; relation < RELATIONS; relation++) {
+                    holds(relation, false, exact(a), exact(b), due[relation] ? knownExact(a) : null, knownExact(b));
+                }
+            }
+        }
+    }
+
     // ---- ABOVE, NOT BELOW and those like them
 
     private static void above() {
@@ -211,6 +241,12 @@ public final class BoundaryRelationsTest extends ByHand {
         tells(ABOVE, unsigned(MAX, MIN), unsigned(MAX, MIN), knownExact(MIN), knownExact(MAX));
         tells(ABOVE, any(), unsigned(MAX, MIN), known(MIN, MAX, MIN, MOST, MIN, -1), known(0, MOST, MAX, MIN, MIN, MAX));
         tells(ABOVE, exact(MOST), exact(0), knownExact(MOST), knownExact(0));
+        tells(ABOVE, unsigned(7, MIN + 9), unsigned(5, MIN + 20),
+                known(0, MOST, 7, MIN + 9, MIN, MAX), known(0, MOST, 5, MIN + 8, MIN, MAX));
+        tells(ABOVE, unsigned(5, MIN + 9), unsigned(5, MIN + 8),
+                known(0, MOST, 6, MIN + 9, MIN, MAX), known(0, MOST, 5, MIN + 8, MIN, MAX));
+        tellsNothing(ABOVE, false, unsigned(6, MIN + 9), unsigned(5, MIN + 8));
+        tellsNothing(ABOVE, false, unsigned(7, MIN + 9), unsigned(5, MIN + 3));
         cannot(ABOVE, unsigned(0, 5), unsigned(5, 9));
         cannot(ABOVE, exact(5), exact(5));
         cannot(ABOVE, exact(MAX), exact(MIN));
@@ -223,6 +259,8 @@ public final class BoundaryRelationsTest extends ByHand {
         cannot(ABOVE, exact(0), any());
         cannot(ABOVE, exact(MOST), exact(MOST));
         cannot(ABOVE, exact(0), exact(0));
+        cannot(ABOVE, exact(0), exact(MOST));
+        cannot(BELOW, exact(MOST), exact(0));
         cannot(BELOW, exact(MOST), any());
         cannot(BELOW, any(), exact(0));
         cannot(BELOW, exact(0), exact(0));
@@ -231,6 +269,8 @@ public final class BoundaryRelationsTest extends ByHand {
         tells(ABOVE, any(), unsigned(MOST - 1, MOST), knownExact(MOST), knownExact(MOST - 1));
         tells(ABOVE, exact(1), any(), knownExact(1), knownExact(0));
         tells(ABOVE, unsigned(0, 1), any(), knownExact(1), knownExact(0));
+        tells(ABOVE, any(), exact(LOW), known(0, MOST, LOW + 1, MOST, MIN, MAX), knownExact(LOW));
+        tells(ABOVE, any(), exact(MAX), known(MIN, MAX, MIN, MOST, MIN, -1), knownExact(MAX));
         tells(BELOW, any(), exact(1), knownExact(0), knownExact(1));
         tells(BELOW, exact(MOST - 1), any(), knownExact(MOST - 1), knownExact(MOST));
     }
@@ -247,6 +287,12 @@ public final class BoundaryRelationsTest extends ByHand {
         tells(NOT_BELOW, any(), exact(0), knownAny(), knownExact(0));
         tells(NOT_BELOW, exact(MIN), exact(MAX), knownExact(MIN), knownExact(MAX));
         tells(NOT_BELOW, exact(7), exact(7), knownExact(7), knownExact(7));
+        tells(NOT_BELOW, unsigned(7, MIN + 9), unsigned(5, MIN + 20),
+                known(0, MOST, 7, MIN + 9, MIN, MAX), known(0, MOST, 5, MIN + 9, MIN, MAX));
+        tells(NOT_BELOW, unsigned(3, MIN + 9), unsigned(5, MIN + 9),
+                known(0, MOST, 5, MIN + 9, MIN, MAX), known(0, MOST, 5, MIN + 9, MIN, MAX));
+        tellsNothing(NOT_BELOW, false, unsigned(7, MIN + 9), unsigned(5, MIN + 3));
+        tellsNothing(NOT_BELOW, false, unsigned(5, MIN + 9), unsigned(5, MIN + 9));
         cannot(NOT_BELOW, unsigned(0, 4), unsigned(5, 9));
         cannot(NOT_BELOW, exact(MAX), exact(MIN));
         cannot(NOT_BELOW, exact(0), exact(MOST));
@@ -305,6 +351,9 @@ public final class BoundaryRelationsTest extends ByHand {
         tells(NOT_LESS, exact(MIN), any(), knownExact(MIN), knownExact(MIN));
         tells(NOT_LESS, any(), any(), knownAny(), knownAny());
         tells(NOT_LESS, any(), exact(0), known(0, MAX, 0, MAX, 0, MAX), knownExact(0));
+        tellsNothing(GREATER, false, signed(-4, 10), signed(-5, 9));
+        tellsNothing(NOT_LESS, false, signed(-5, 10), signed(-5, 10));
+        tellsNothing(NOT_LESS, false, signed(-3, 10), signed(-5, 4));
         cannot(NOT_LESS, signed(-9, -6), signed(-5, 3));
         cannot(NOT_LESS, exact(-1), exact(0));
         cannot(NOT_LESS, signed(MIN, MAX - 1), exact(MAX));
@@ -329,6 +378,8 @@ public final class BoundaryRelationsTest extends ByHand {
         cannot(GREATER, exact(MIN), any());
         cannot(GREATER, exact(MAX), exact(MAX));
         cannot(GREATER, exact(MIN), exact(MIN));
+        cannot(GREATER, exact(MIN), exact(MAX));
+        cannot(LESS, exact(MAX), exact(MIN));
         cannot(LESS, exact(MAX), any());
         cannot(LESS, any(), exact(MIN));
         tells(GREATER, any(), exact(MAX - 1), knownExact(MAX), knownExact(MAX - 1));
@@ -377,6 +428,11 @@ public final class BoundaryRelationsTest extends ByHand {
         long[] bits = known(8, 7, 10, 15, 10, 15);
         tells(SAME, bits(8, 7), unsigned(10, 20), bits, bits);
         tells(SAME, unsigned(10, 20), bits(8, 7), bits, bits);
+        long[] gaps = known(8, 5, 8, 13, 8, 13);
+        tells(SAME, bits(8, 5), unsigned(0, 31), gaps, gaps);
+        tells(SAME, any(), bits(8, 5), gaps, gaps);
+        long[] odd = known(3, -4, 3, MOST, MIN, MAX);
+        tells(SAME, bits(1, -2), bits(2, -3), odd, odd);
         tells(SAME, any(), any(), knownAny(), knownAny());
         cannot(SAME, unsigned(1, 5), unsigned(6, 9));
         cannot(SAME, signed(-5, -1), signed(0, 4));
@@ -493,6 +549,8 @@ public final class BoundaryRelationsTest extends ByHand {
         cannot(NOT_MEET, bits(8, 7), bits(8, 1));
         cannot(NOT_MEET, exact(3), exact(1));
         cannot(NOT_MEET, exact(MIN), bits(MIN, MAX));
+        cannot(NOT_MEET, bits(MIN, 1), bits(MIN, 2));
+        cannot(NOT_MEET, bits(1, -2), bits(1, -4));
         cannot(NOT_MEET, bits(1, -2), exact(MOST));
         cannot(NOT_MEET, exact(MOST), exact(MOST));
         // A 1 where the other one may be 1 is not enough.
