@@ -50,6 +50,13 @@ final class Check {
         }
     }
 
+    void due(String what, String got, String want) {
+        asked++;
+        if (!want.equals(got)) {
+            report(what + " answered " + got + ", due is " + want);
+        }
+    }
+
     void throwsIndex(String what, Call call) {
         asked++;
         try {
